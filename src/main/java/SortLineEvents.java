@@ -305,13 +305,13 @@ public final class SortLineEvents {
     private void enter(Piece piece, Belt belt) {
         if (belt.refusesAt(now)) {
             tally.losses[BY_STANDING]++;
-            note(piece, LOST_AS_BELT_STANDS, belt.number);
+            events.add(now, piece.number, LOST_AS_BELT_STANDS, belt.number);
         } else if (belt.hasRule && loadWith(piece, belt) > belt.load) {
             jamBy(piece, belt);
         } else {
             piece.belt = belt;
             piece.place = 0;
-            note(piece, ENTERED, belt.number);
+            events.add(now, piece.number, ENTERED, belt.number);
             passHeads(piece, belt);
         }
     }
@@ -339,7 +339,7 @@ public final class SortLineEvents {
         tally.losses[BY_JAMS]++;
         tally.losses[TENTHS_STOOD] += belt.stands;
         jams.add(now, piece.number, belt.number, others);
-        note(piece, JAMMED, belt.number);
+        events.add(now, piece.number, JAMMED, belt.number);
     }
 
     private void passHeads(Piece piece, Belt belt) {
@@ -347,7 +347,7 @@ public final class SortLineEvents {
             Head head = heads[i];
             if (head.belt == belt && head.place == piece.place) {
                 boolean missed = chance(piece.number, i) < head.miss;
-                note(piece, missed ? MISSED : SEEN, i);
+                events.add(now, piece.number, missed ? MISSED : SEEN, i);
             }
         }
     }
@@ -364,7 +364,7 @@ public final class SortLineEvents {
         } else {
             tally.wentOut++;
             belt.outs[piece.kind].add(now);
-            note(piece, WENT_OUT, belt.number);
+            events.add(now, piece.number, WENT_OUT, belt.number);
         }
     }
 
@@ -376,7 +376,7 @@ public final class SortLineEvents {
             Robot robot = robots[i];
             if (robot.belt == belt && piece.size <= robot.reach
                     && chance(piece.number, FIRST_ROBOT_DEVICE + i) >= robot.miss) {
-                note(piece, TAKEN_BY_ROBOT, i);
+                events.add(now, piece.number, TAKEN_BY_ROBOT, i);
                 return true;
             }
         }
@@ -391,7 +391,7 @@ public final class SortLineEvents {
             Picker picker = pickers[i];
             if (picker.belt == belt && now >= picker.freeFrom) {
                 picker.take(now);
-                note(piece, TAKEN_BY_HAND, i);
+                events.add(now, piece.number, TAKEN_BY_HAND, i);
                 return true;
             }
         }
@@ -403,15 +403,11 @@ public final class SortLineEvents {
         if (filled <= bunker.room) {
             bunker.filled = filled;
             tally.inBunkers++;
-            note(piece, PUT_IN_BUNKER, bunker.number);
+            events.add(now, piece.number, PUT_IN_BUNKER, bunker.number);
         } else {
             tally.losses[BY_BUNKERS]++;
-            note(piece, LOST_AT_BUNKER, bunker.number);
+            events.add(now, piece.number, LOST_AT_BUNKER, bunker.number);
         }
-    }
-
-    private void note(Piece piece, int what, int where) {
-        events.add(now, piece.number, what, where);
     }
 
     private double chance(int piece, int device) {

@@ -100,7 +100,7 @@ public final class LineTest {
     private static void placesOfHeads() {
         SortLineEvents line = new SortLineEvents(3L);
         line.belt(10, 3.0);
-        line.belt(7, 0.7);
+        line.belt(3, 0.9);
         line.head(0, 1.0, 0.0);
         line.head(0, 0.875, 0.0);
         line.head(0, 2.9999, 0.0);
@@ -109,10 +109,10 @@ public final class LineTest {
         line.feed(0, 100, 0, 1.0);
         line.feed(1, 200, 0, 1.0);
         line.run(300);
-        int place = (int) Math.floor(0.3 / 0.7 * 7);
+        // 0.3 * 3 / 0.9 is less than 1 as doubles, 0.3 / 0.9 * 3 is not.
         due.events("3: places, down", line, 0,
                 "100/0/0/0 100/0/1/3 102/0/1/1 103/0/1/0 109/0/1/2 110/0/4/0 200/1/0/1 "
-                + (200 + place) + "/1/2/4 207/1/4/1");
+                + "201/1/2/4 203/1/4/1");
     }
 
     private static void bunkers() {

@@ -11,6 +11,8 @@ public final class TimeTest {
         headsThenRobotsThenPickers();
         pickersTire();
         pickersAreFreeAgain();
+        pickersByTheOrderOfTheirSum();
+        pickersTakeAtTheirBeltAlone();
         aBeltStands();
         aJamInTheTenthOfAnEnd();
         loadsAreAddedByNumbers();
@@ -214,6 +216,28 @@ public final class TimeTest {
         slow.run(1000);
         due.events("the slowest, who tires most", slow, 0, "1/0/0/0 2/0/5/0 81/1/0/0 82/1/4/0 82/2/0/0 "
                 + "83/2/5/0 962/3/0/0 963/3/4/0 963/4/0/0 964/4/5/0");
+    }
+
+    /** 10.0 / 9.5 * 1.9 is less than 2.0 as doubles, 10.0 * 1.9 / 9.5 is not. */
+    private static void pickersByTheOrderOfTheirSum() {
+        SortLineEvents line = line(1);
+        line.picker(0, 9.5, 0.3);
+        int[] times = {1, 3, 5, 7, 9, 11, 12};
+        for (int time : times) {
+            line.feed(0, time, 1, 1.0);
+        }
+        line.run(20);
+        due.events("10.0 over the rate first", line, 8, "9/4/0/0 10/4/5/0 11/5/0/0 12/5/4/0 12/6/0/0 13/6/5/0");
+    }
+
+    private static void pickersTakeAtTheirBeltAlone() {
+        SortLineEvents line = line(1, 1);
+        line.picker(1, 1.0, 0.0);
+        line.feed(0, 1, 1, 1.0);
+        line.feed(1, 2, 0, 1.0);
+        line.feed(1, 2, 4, 10.0);
+        line.run(20);
+        due.events("not at belt 0, not kind 0", line, 0, "1/0/0/0 2/0/4/0 2/1/0/1 2/2/0/1 3/1/4/1 3/2/5/0");
     }
 
     /** A jam at 3 for 4 tenths: entering is refused up to 6, coming on up to 7. */
