@@ -26,6 +26,10 @@ final class Due {
         }
     }
 
+    void is(String call, Object got, Object want) {
+        is(call, String.valueOf(got), String.valueOf(want));
+    }
+
     /** All events from number 'from' on, each as time/piece/what/where. */
     void events(String run, SortLineEvents line, int from, String want) {
         StringBuilder got = new StringBuilder();
