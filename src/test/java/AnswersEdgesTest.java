@@ -21,17 +21,9 @@ public final class AnswersEdgesTest {
         due.end();
     }
 
-    private static SortLineEvents line(int... tenths) {
-        SortLineEvents line = new SortLineEvents(5L);
-        for (int each : tenths) {
-            line.belt(each, 1.0);
-        }
-        return line;
-    }
-
     private static void feedingAtNow() {
         for (int now : new int[] {0, 1, 5000, 9998, 9999}) {
-            SortLineEvents line = line(3);
+            SortLineEvents line = Lines.ofBelts(3);
             line.run(now);
             due.is("9: before now", line.feed(0, now - 1, 0, 1.0), false);
             due.is("9: now", line.feed(0, now, 0, 1.0), false);
@@ -44,7 +36,7 @@ public final class AnswersEdgesTest {
             due.is("13: the one fed at 10000 is inside", line.inside() >= 1, true);
             due.is("18: no refused piece", line.pieceKind(2), -1);
         }
-        SortLineEvents over = line(3);
+        SortLineEvents over = Lines.ofBelts(3);
         over.run(10000);
         due.is("9: no tenth is later than 10000", over.feed(0, 10000, 0, 1.0), false);
         due.is("9: no tenth is later than 10000", over.feed(0, 10001, 0, 1.0), false);
@@ -53,7 +45,7 @@ public final class AnswersEdgesTest {
 
     private static void runningToNow() {
         for (int now : new int[] {0, 1, 9999, 10000}) {
-            SortLineEvents line = line(3);
+            SortLineEvents line = Lines.ofBelts(3);
             due.is("10: to " + now, line.run(now), 0);
             due.is("10: before " + now, line.run(now - 1), -1);
             due.is("10: to " + now + " again", line.run(now), 0);
@@ -61,8 +53,8 @@ public final class AnswersEdgesTest {
             due.is("10: to " + now + " still", line.run(now), 0);
             due.is("10: to 10000", line.run(10000), 0);
         }
-        SortLineEvents stepped = line(3, 4);
-        SortLineEvents atOnce = line(3, 4);
+        SortLineEvents stepped = Lines.ofBelts(3, 4);
+        SortLineEvents atOnce = Lines.ofBelts(3, 4);
         for (SortLineEvents each : new SortLineEvents[] {stepped, atOnce}) {
             each.joinTo(0, 1);
             each.joinTo(1, 0);
@@ -83,7 +75,7 @@ public final class AnswersEdgesTest {
     }
 
     private static void eventsFromTheFirstToTheLast() {
-        SortLineEvents line = line(2);
+        SortLineEvents line = Lines.ofBelts(2);
         line.feed(0, 4, 0, 1.0);
         for (int what = 0; what < 4; what++) {
             due.is("11: none yet", line.event(0, what), -1);
@@ -106,7 +98,7 @@ public final class AnswersEdgesTest {
     }
 
     private static SortLineEvents ring(int atOne, int atTwo) {
-        SortLineEvents line = line(1, 1);
+        SortLineEvents line = Lines.ofBelts(1, 1);
         line.joinTo(0, 0);
         line.rule(1, 1.0, 7);
         for (int piece = 0; piece < atOne + atTwo; piece++) {
@@ -165,7 +157,7 @@ public final class AnswersEdgesTest {
     }
 
     private static void outsOfEach() {
-        SortLineEvents line = line(1, 1, 1, 1, 1, 1);
+        SortLineEvents line = Lines.ofBelts(1, 1, 1, 1, 1, 1);
         for (int belt = 0; belt < 6; belt++) {
             for (int kind = 0; kind < 5; kind++) {
                 line.feed(belt, 1 + belt, kind, 1.0);
@@ -192,7 +184,7 @@ public final class AnswersEdgesTest {
 
     /** A piece is inside from the tenth in which it enters to the tenth before it leaves. */
     private static void insideOneByOne() {
-        SortLineEvents line = line(3, 3);
+        SortLineEvents line = Lines.ofBelts(3, 3);
         line.bunker(1.0);
         line.joinTo(0, -2);
         line.rule(1, 1.0, 2);
@@ -211,7 +203,7 @@ public final class AnswersEdgesTest {
     }
 
     private static void jamsFromTheFirstToTheLast() {
-        SortLineEvents line = line(100, 100);
+        SortLineEvents line = Lines.ofBelts(100, 100);
         line.rule(1, 0.5, 2);
         line.feed(1, 3, 0, 1.0);
         line.feed(1, 5, 0, 0.5);
@@ -238,7 +230,7 @@ public final class AnswersEdgesTest {
 
     /** No piece jams twice, so there are 60 at most. */
     private static void sixtyJams() {
-        SortLineEvents line = line(1, 1, 1, 1, 1, 1);
+        SortLineEvents line = Lines.ofBelts(1, 1, 1, 1, 1, 1);
         for (int belt = 0; belt < 6; belt++) {
             line.rule(belt, 0.0, 1);
         }
@@ -261,7 +253,7 @@ public final class AnswersEdgesTest {
     }
 
     private static void lossesOneByOne() {
-        SortLineEvents line = line(2, 1);
+        SortLineEvents line = Lines.ofBelts(2, 1);
         line.bunker(0.0);
         line.joinTo(1, -2);
         line.rule(0, 0.0, 1000);
@@ -284,7 +276,7 @@ public final class AnswersEdgesTest {
 
     private static void intervalsOfNoneOneAndTwo() {
         for (int kind = 0; kind < 5; kind++) {
-            SortLineEvents line = line(1);
+            SortLineEvents line = Lines.ofBelts(1);
             line.feed(0, 1, kind, 1.0);
             line.feed(0, 2, kind, 1.0);
             for (int time = 1; time <= 3; time++) {
@@ -299,13 +291,13 @@ public final class AnswersEdgesTest {
             due.is("16: belt 1", line.interval(1, kind, 0), -1.0);
             due.is("16: another kind", line.interval(0, (kind + 1) % 5, 0), -1.0);
         }
-        SortLineEvents line = line(1);
+        SortLineEvents line = Lines.ofBelts(1);
         due.is("16: kind -1", line.interval(0, -1, 0), -1.0);
         due.is("16: kind 5", line.interval(0, 5, 0), -1.0);
     }
 
     private static void leastAndGreatestIntervals() {
-        SortLineEvents line = line(1);
+        SortLineEvents line = Lines.ofBelts(1);
         line.feed(0, 1, 4, 1.0);
         line.feed(0, 9999, 4, 1.0);
         line.run(9999);
@@ -313,7 +305,7 @@ public final class AnswersEdgesTest {
         line.run(10000);
         due.is("16: the longest", line.interval(0, 4, 0), 999.8);
         due.is("16: the longest", line.interval(0, 4, 1), 999.8);
-        SortLineEvents grows = line(1);
+        SortLineEvents grows = Lines.ofBelts(1);
         int[] times = {10, 15, 19, 25, 25, 28};
         double[] least = {-1.0, 0.5, 0.4, 0.4, 0.0, 0.0};
         double[] greatest = {-1.0, 0.5, 0.5, 0.6, 0.6, 0.6};
@@ -332,7 +324,7 @@ public final class AnswersEdgesTest {
 
     /** Neither other kinds, nor other belts, nor pieces that are taken, joined on or lost come between. */
     private static void intervalsOfOneKindAndBelt() {
-        SortLineEvents line = line(1, 1, 1);
+        SortLineEvents line = Lines.ofBelts(1, 1, 1);
         line.joinTo(2, 0);
         line.robot(0, 0.5, 0.0);
         line.feed(0, 1, 1, 1.0);
@@ -349,7 +341,7 @@ public final class AnswersEdgesTest {
     }
 
     private static void sameAtEveryTenth() {
-        SortLineEvents line = line(2, 1);
+        SortLineEvents line = Lines.ofBelts(2, 1);
         line.bunker(1.0);
         line.joinTo(0, -2);
         line.rule(1, 1.0, 2);

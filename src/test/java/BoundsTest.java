@@ -25,9 +25,10 @@ public final class BoundsTest {
     }
 
     private static State state(String name, List<Call> calls) {
-        return new State(name, NOW, 3, 2, calls, List.of(Call.belt(1, 1.0), Call.head(0, 0.0, 0.5), Call.bunker(1.0),
-                Call.picker(0, 1.0, 0.0), Call.robot(0, 1.0, 0.0), Call.feed(0, NOW + 2, 1, 1.0),
-                Call.feed(1, NOW + 2, 1, 1.0), Call.run(NOW + 30)), NOW + 30);
+        List<Call> fed = List.of(Call.feed(0, NOW + 2, 1, 1.0), Call.feed(1, NOW + 2, 1, 1.0), Call.run(NOW + 30));
+        List<Call> told = List.of(Call.belt(1, 1.0), Call.head(0, 0.0, 0.5), Call.bunker(1.0),
+                Call.picker(0, 1.0, 0.0), Call.robot(0, 1.0, 0.0), Call.feed(0, NOW + 2, 1, 1.0), Call.run(NOW + 30));
+        return new State(name, NOW, 3, 2, calls).goesOn(fed, NOW + 30).goesOn(told, NOW + 30);
     }
 
     private static void telling() {

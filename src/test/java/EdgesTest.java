@@ -25,17 +25,9 @@ public final class EdgesTest {
         due.end();
     }
 
-    private static SortLineEvents line(int... tenths) {
-        SortLineEvents line = new SortLineEvents(0L);
-        for (int each : tenths) {
-            line.belt(each, 1.0);
-        }
-        return line;
-    }
-
     private static void tenthsOfBelts() {
         for (int tenths : new int[] {1, 2, 999, 1000}) {
-            SortLineEvents line = line(tenths);
+            SortLineEvents line = Lines.ofBelts(tenths);
             line.feed(0, 7, 0, 1.0);
             due.is("2: before its time", line.run(6), 0);
             due.is("2: before its time", line.inside(), 0);
@@ -112,7 +104,7 @@ public final class EdgesTest {
     /** The last piece at the last head and the last robot, which misses at 1.0 and not at 0.0. */
     private static void missesAtAChance() {
         for (int miss = 0; miss < 2; miss++) {
-            SortLineEvents line = line(1);
+            SortLineEvents line = Lines.ofBelts(1);
             for (int device = 0; device < 8; device++) {
                 line.head(0, 0.0, miss);
             }
@@ -141,14 +133,14 @@ public final class EdgesTest {
         }
         jams(Math.nextDown(10.0), 10.0, true);
         jams(10.0, 10.0, false);
-        SortLineEvents line = line(100);
+        SortLineEvents line = Lines.ofBelts(100);
         line.rule(0, 600.0, 1);
         for (int piece = 0; piece < 60; piece++) {
             line.feed(0, 1, 0, 10.0);
         }
         line.run(1);
         due.losses("6: sixty of 10.0 are 600.0", line, "0,0,0,0");
-        SortLineEvents less = line(100);
+        SortLineEvents less = Lines.ofBelts(100);
         less.rule(0, Math.nextDown(600.0), 1);
         for (int piece = 0; piece < 60; piece++) {
             less.feed(0, 1, 0, 10.0);
@@ -160,7 +152,7 @@ public final class EdgesTest {
     }
 
     private static void jams(double load, double size, boolean want) {
-        SortLineEvents line = line(100);
+        SortLineEvents line = Lines.ofBelts(100);
         line.rule(0, load, 5);
         line.feed(0, 3, 0, size);
         line.run(3);
@@ -175,7 +167,7 @@ public final class EdgesTest {
     private static void loadsOfJoinedPieces() {
         double[] sizes = {2.0, Math.nextUp(2.0)};
         for (double size : sizes) {
-            SortLineEvents line = line(2, 50);
+            SortLineEvents line = Lines.ofBelts(2, 50);
             line.joinTo(0, 1);
             line.rule(1, 2.0, 3);
             line.feed(0, 3, 0, size);
@@ -190,7 +182,7 @@ public final class EdgesTest {
     /** A jam at 3: entering is refused up to 3 + stands - 1, coming on up to 3 + stands. */
     private static void standing() {
         for (int stands : new int[] {1, 2, 999, 1000}) {
-            SortLineEvents line = line(5);
+            SortLineEvents line = Lines.ofBelts(5);
             line.head(0, 0.4, 0.0);
             line.head(0, 0.6, 0.0);
             line.rule(0, 1.0, stands);
@@ -221,7 +213,7 @@ public final class EdgesTest {
 
     /** The second jam comes as soon as the first lets pieces enter: what is on the belt stands on. */
     private static void standingAgain() {
-        SortLineEvents line = line(3);
+        SortLineEvents line = Lines.ofBelts(3);
         line.rule(0, 1.0, 4);
         line.feed(0, 1, 0, 1.0);
         line.feed(0, 2, 0, 1.0);
@@ -238,7 +230,7 @@ public final class EdgesTest {
 
     /** In one tenth: a lower number enters before the jam, and leaves before it; a higher one is behind it. */
     private static void jamsByTurns() {
-        SortLineEvents line = line(2, 2);
+        SortLineEvents line = Lines.ofBelts(2, 2);
         line.rule(0, 1.0, 1);
         line.feed(0, 1, 0, 1.0);
         line.feed(0, 3, 0, 1.0);
@@ -252,7 +244,7 @@ public final class EdgesTest {
     private static void reaches() {
         double[] reaches = {0.0, 1.0, 10.0};
         for (double reach : reaches) {
-            SortLineEvents line = line(1);
+            SortLineEvents line = Lines.ofBelts(1);
             line.robot(0, reach, 0.0);
             boolean above = line.feed(0, 1, 1, Math.nextUp(reach));
             due.is("9: a size above " + reach, above, reach < 10.0);
@@ -269,13 +261,13 @@ public final class EdgesTest {
 
     private static void kindsThatAreTaken() {
         for (int kind = 0; kind < 5; kind++) {
-            SortLineEvents byRobot = line(1);
+            SortLineEvents byRobot = Lines.ofBelts(1);
             byRobot.robot(0, 10.0, 0.0);
             byRobot.feed(0, 1, kind, 0.0);
             byRobot.run(2);
             due.is("8: kind " + kind, byRobot.event(1, 2), kind == 0 ? 4 : 6);
             due.is("12: kind " + kind, byRobot.out(0, kind), kind == 0 ? 1 : 0);
-            SortLineEvents byHand = line(1);
+            SortLineEvents byHand = Lines.ofBelts(1);
             byHand.picker(0, 1.0, 0.0);
             byHand.feed(0, 1, kind, 10.0);
             byHand.run(2);
@@ -301,7 +293,7 @@ public final class EdgesTest {
 
     /** How long a picker is busy with the piece that is its n-th: one tenth less does not do for the next. */
     private static void isBusy(double rate, double tires, int nth, int busy) {
-        SortLineEvents line = line(1);
+        SortLineEvents line = Lines.ofBelts(1);
         line.picker(0, rate, tires);
         for (int before = 0; before < nth; before++) {
             line.feed(0, 1 + 3000 * before, 1, 0.0);
@@ -321,7 +313,7 @@ public final class EdgesTest {
     private static void rooms() {
         double[] edges = {0.0, 2.0, 10.0};
         for (double room : edges) {
-            SortLineEvents line = line(1);
+            SortLineEvents line = Lines.ofBelts(1);
             line.bunker(room);
             line.joinTo(0, -2);
             boolean above = line.feed(0, 1, 1, Math.nextUp(room));
@@ -335,7 +327,7 @@ public final class EdgesTest {
             due.is("4: the full one takes what has no size", line.event(above ? 5 : 3, 2), 9);
             due.is("4: and nothing else", line.event(above ? 7 : 5, 2), 8);
         }
-        SortLineEvents just = line(1);
+        SortLineEvents just = Lines.ofBelts(1);
         just.bunker(Math.nextDown(2.0));
         just.joinTo(0, -2);
         just.feed(0, 1, 0, 2.0);
@@ -346,7 +338,7 @@ public final class EdgesTest {
 
     private static void joinsToEach() {
         for (int to = -5; to < 6; to++) {
-            SortLineEvents line = line(1, 1, 1, 1, 1, 1);
+            SortLineEvents line = Lines.ofBelts(1, 1, 1, 1, 1, 1);
             for (int bunker = 0; bunker < 4; bunker++) {
                 line.bunker(1.0);
             }
@@ -360,7 +352,7 @@ public final class EdgesTest {
 
     /** What one object is told, another does not know. */
     private static void twoObjects() {
-        SortLineEvents one = line(1);
+        SortLineEvents one = Lines.ofBelts(1);
         SortLineEvents other = new SortLineEvents(0L);
         one.bunker(1.0);
         one.feed(0, 1, 3, 1.0);

@@ -132,19 +132,22 @@ public final class RefusedTest {
         return calls;
     }
 
+    /** It goes on with pieces alone, and with more that is told first, as far as the line is open. */
     private static State state(String name, int now, int belts, int bunkers, List<Call> calls) {
-        List<Call> later = new ArrayList<>(List.of(
-                Call.bunker(2.0), Call.head(0, 1.5, 0.5), Call.picker(0, 3.0, 1.0), Call.robot(0, 0.5, 0.25),
-                Call.belt(3, 1.0), Call.head(0, 0.0, 0.75)));
+        int end = Math.min(now + 70, 10000);
+        List<Call> fed = new ArrayList<>();
         for (int piece = 0; piece < 24; piece++) {
-            later.add(Call.feed(piece % 6, now + 1 + piece / 4, piece % 5, piece % 6 * 0.5));
+            fed.add(Call.feed(piece % 6, now + 1 + piece / 4, (piece + 1) % 5, piece % 7 * 0.5));
         }
-        int laterTime = Math.min(now + 70, 10000);
-        for (int time = now; time < laterTime; time += 3) {
-            later.add(Call.run(time));
+        for (int time = now; time < end; time += 3) {
+            fed.add(Call.run(time));
         }
-        later.add(Call.run(laterTime));
-        return new State(name, now, belts, bunkers, calls, later, laterTime);
+        fed.add(Call.run(end));
+        List<Call> told = new ArrayList<>(List.of(
+                Call.bunker(2.0), Call.head(0, 1.5, 0.5), Call.picker(0, 3.0, 1.0), Call.robot(0, 0.5, 0.25),
+                Call.belt(3, 1.0), Call.head(0, 0.0, 0.75), Call.rule(0, 5.0, 2)));
+        told.addAll(fed);
+        return new State(name, now, belts, bunkers, calls).goesOn(fed, end).goesOn(told, end);
     }
 
     private static void wrongArguments(State state) {

@@ -11,27 +11,26 @@ final class State {
     final int belts;
     final int bunkers;
     private final List<Call> calls;
-    private final List<Call> later;
-    private final List<Call> questions;
-    private final List<Call> laterQuestions;
-    private final List<Object> answers;
-    private final List<Object> laterAnswers;
+    private final List<Prospect> prospects = new ArrayList<>();
 
-    /**
-     * The state that the calls lead to: a line of so many belts and bunkers, at the time now. Later are
-     * calls up to a later time, which bring to light what no question tells, such as how many heads there are.
-     */
-    State(String name, int now, int belts, int bunkers, List<Call> calls, List<Call> later, int laterTime) {
+    /** Calls that go on from a state, questions behind them, and the answers to all of these. */
+    private record Prospect(List<Call> calls, List<Call> questions, List<Object> answers) { }
+
+    /** The state that the calls lead to: a line of so many belts and bunkers, at the time now. */
+    State(String name, int now, int belts, int bunkers, List<Call> calls) {
         this.name = name;
         this.now = now;
         this.belts = belts;
         this.bunkers = bunkers;
         this.calls = calls;
-        this.later = later;
-        questions = questionsBehind(List.of(), now);
-        laterQuestions = questionsBehind(later, laterTime);
-        answers = answersBehind(List.of(), List.of(), questions);
-        laterAnswers = answersBehind(List.of(), later, laterQuestions);
+        goesOn(List.of(), now);
+    }
+
+    /** Adds calls up to a time, which bring to light what no question tells, such as how many heads there are. */
+    State goesOn(List<Call> more, int time) {
+        List<Call> questions = questionsBehind(more, time);
+        prospects.add(new Prospect(more, questions, answersBehind(List.of(), more, questions)));
+        return this;
     }
 
     void accepts(Due due, Call call) {
@@ -48,21 +47,18 @@ final class State {
 
     /** All that can be asked behind the call, now and later on, is answered as it is without it. */
     void isUnchangedBy(Due due, Call call) {
-        List<Call> between = List.of(call);
-        String when = name + " behind " + call.name();
-        compare(due, when + ", all that can be asked", answersBehind(between, List.of(), questions), answers);
-        compare(due, when + ", later on", answersBehind(between, later, laterQuestions), laterAnswers);
+        for (Prospect prospect : prospects) {
+            List<Object> got = answersBehind(List.of(call), prospect.calls, prospect.questions);
+            if (!got.equals(prospect.answers)) {
+                String when = name + " behind " + call.name() + " and " + prospect.calls.size() + " calls";
+                due.is(when, got.toString(), prospect.answers.toString());
+            }
+        }
     }
 
     /** The answer that the call gets in this state. */
     Object answer(Call call) {
         return call.on().apply(line());
-    }
-
-    private void compare(Due due, String when, List<Object> got, List<Object> want) {
-        if (!got.equals(want)) {
-            due.is(when, got.toString(), want.toString());
-        }
     }
 
     private SortLineEvents line() {

@@ -22,16 +22,8 @@ public final class TimeTest {
         due.end();
     }
 
-    private static SortLineEvents line(int... tenths) {
-        SortLineEvents line = new SortLineEvents(0L);
-        for (int each : tenths) {
-            line.belt(each, 1.0);
-        }
-        return line;
-    }
-
     private static void feeding() {
-        SortLineEvents line = line(4);
+        SortLineEvents line = Lines.ofBelts(4);
         line.run(5);
         due.is("9: no belt 1", line.feed(1, 6, 0, 1.0), false);
         due.is("9: no belt -1", line.feed(-1, 6, 0, 1.0), false);
@@ -55,7 +47,7 @@ public final class TimeTest {
         due.is("9: a 61st piece", line.feed(0, 8, 1, 1.0), false);
         due.is("9: 59 entered", line.run(9), 59);
         due.is("9: still 60", line.feed(0, 10, 1, 1.0), false);
-        SortLineEvents late = line(4);
+        SortLineEvents late = Lines.ofBelts(4);
         late.feed(0, 3, 0, 1.0);
         late.run(5);
         due.is("9: fed behind a run, at now", late.feed(0, 5, 0, 1.0), false);
@@ -65,7 +57,7 @@ public final class TimeTest {
     }
 
     private static void running() {
-        SortLineEvents line = line(3);
+        SortLineEvents line = Lines.ofBelts(3);
         due.is("10: run(10001)", line.run(10001), -1);
         due.is("10: run(-1)", line.run(-1), -1);
         due.is("10: run(MIN)", line.run(Integer.MIN_VALUE), -1);
@@ -83,7 +75,7 @@ public final class TimeTest {
         due.is("10: run(10000)", line.run(10000), 2);
         due.is("10: run(10000) again", line.run(10000), 2);
         due.is("10: 9999 is back", line.run(9999), -1);
-        SortLineEvents idle = line(3);
+        SortLineEvents idle = Lines.ofBelts(3);
         idle.run(9999);
         due.is("10: time goes on without pieces", idle.run(9998), -1);
         due.is("10: time goes on without pieces", idle.feed(0, 9999, 0, 1.0), false);
@@ -92,7 +84,7 @@ public final class TimeTest {
     }
 
     private static void eventsAnswer() {
-        SortLineEvents line = line(3);
+        SortLineEvents line = Lines.ofBelts(3);
         line.feed(0, 7, 2, 1.0);
         line.run(20);
         due.is("11: time", line.event(1, 0), 10);
@@ -110,7 +102,7 @@ public final class TimeTest {
     }
 
     private static void onlyTheFirstEventsAreKept() {
-        SortLineEvents line = line(1);
+        SortLineEvents line = Lines.ofBelts(1);
         line.joinTo(0, 0);
         for (int piece = 0; piece < 60; piece++) {
             line.feed(0, 1, 0, 0.0);
@@ -158,7 +150,7 @@ public final class TimeTest {
     }
 
     private static void headsThenRobotsThenPickers() {
-        SortLineEvents line = line(2, 2);
+        SortLineEvents line = Lines.ofBelts(2, 2);
         line.picker(0, 1.0, 0.0);
         line.robot(1, 10.0, 0.0);
         line.robot(0, 1.0, 0.0);
@@ -179,7 +171,7 @@ public final class TimeTest {
 
     /** Busy for 1 + 10, 1 + 15, 1 + 20 tenths, and so on. */
     private static void pickersTire() {
-        SortLineEvents line = line(1);
+        SortLineEvents line = Lines.ofBelts(1);
         line.picker(0, 1.0, 0.5);
         for (int time = 1; time <= 60; time++) {
             line.feed(0, time, 1, 1.0);
@@ -198,7 +190,7 @@ public final class TimeTest {
 
     /** 10.0 / 3.0 is 3.33.., so a picker is busy for 4 tenths, then for 1 + 5.0 (1.5 times 3.33..). */
     private static void pickersAreFreeAgain() {
-        SortLineEvents line = line(1);
+        SortLineEvents line = Lines.ofBelts(1);
         line.picker(0, 3.0, 0.5);
         int[] times = {1, 4, 5, 9, 10, 11};
         for (int time : times) {
@@ -207,7 +199,7 @@ public final class TimeTest {
         line.run(20);
         due.events("free from then on", line, 0, "1/0/0/0 2/0/5/0 4/1/0/0 5/1/4/0 5/2/0/0 6/2/5/0 "
                 + "9/3/0/0 10/3/4/0 10/4/0/0 11/4/4/0 11/5/0/0 12/5/5/0");
-        SortLineEvents slow = line(1);
+        SortLineEvents slow = Lines.ofBelts(1);
         slow.picker(0, 0.125, 10.0);
         int[] slowTimes = {1, 81, 82, 962, 963};
         for (int time : slowTimes) {
@@ -220,7 +212,7 @@ public final class TimeTest {
 
     /** 10.0 / 9.5 * 1.9 is less than 2.0 as doubles, 10.0 * 1.9 / 9.5 is not. */
     private static void pickersByTheOrderOfTheirSum() {
-        SortLineEvents line = line(1);
+        SortLineEvents line = Lines.ofBelts(1);
         line.picker(0, 9.5, 0.3);
         int[] times = {1, 3, 5, 7, 9, 11, 12};
         for (int time : times) {
@@ -231,7 +223,7 @@ public final class TimeTest {
     }
 
     private static void pickersTakeAtTheirBeltAlone() {
-        SortLineEvents line = line(1, 1);
+        SortLineEvents line = Lines.ofBelts(1, 1);
         line.picker(1, 1.0, 0.0);
         line.feed(0, 1, 1, 1.0);
         line.feed(1, 2, 0, 1.0);
@@ -242,7 +234,7 @@ public final class TimeTest {
 
     /** A jam at 3 for 4 tenths: entering is refused up to 6, coming on up to 7. */
     private static void aBeltStands() {
-        SortLineEvents line = line(5, 1);
+        SortLineEvents line = Lines.ofBelts(5, 1);
         line.rule(0, 2.0, 4);
         line.joinTo(1, 0);
         line.feed(0, 1, 0, 2.0);
@@ -266,13 +258,13 @@ public final class TimeTest {
 
     /** Piece 1 has come to the end of the belt that piece 0 jams: it goes on, but is in the load. */
     private static void aJamInTheTenthOfAnEnd() {
-        SortLineEvents line = line(3);
+        SortLineEvents line = Lines.ofBelts(3);
         line.rule(0, 2.0, 10);
         line.feed(0, 4, 0, 1.0);
         line.feed(0, 1, 0, 1.5);
         line.run(30);
         due.events("a jam before the end's turn", line, 0, "1/1/0/0 4/0/3/0 4/1/4/0");
-        SortLineEvents after = line(3);
+        SortLineEvents after = Lines.ofBelts(3);
         after.rule(0, 2.0, 10);
         after.feed(0, 1, 0, 1.5);
         after.feed(0, 4, 0, 1.0);
@@ -285,7 +277,7 @@ public final class TimeTest {
         double[][] orders = {{0.1, 0.2, 0.3}, {0.3, 0.2, 0.1}};
         for (int order = 0; order < 2; order++) {
             for (int last = 0; last < 3; last++) {
-                SortLineEvents line = line(50);
+                SortLineEvents line = Lines.ofBelts(50);
                 line.rule(0, 0.6, 1);
                 for (int piece = 0; piece < 3; piece++) {
                     line.feed(0, piece == last ? 9 : 8 - piece, 0, orders[order][piece]);
@@ -296,7 +288,7 @@ public final class TimeTest {
             }
         }
         due.is("the two sums differ", 0.1 + 0.2 + 0.3 > 0.6 && !(0.3 + 0.2 + 0.1 > 0.6), true);
-        SortLineEvents full = line(5);
+        SortLineEvents full = Lines.ofBelts(5);
         full.rule(0, 3.0, 1);
         full.feed(0, 1, 0, 1.0);
         full.feed(0, 2, 0, 2.0);
@@ -305,7 +297,7 @@ public final class TimeTest {
     }
 
     private static void aRingThatJams() {
-        SortLineEvents ring = line(3);
+        SortLineEvents ring = Lines.ofBelts(3);
         ring.rule(0, 2.0, 2);
         ring.joinTo(0, 0);
         ring.feed(0, 1, 0, 1.0);
@@ -315,7 +307,7 @@ public final class TimeTest {
         ring.feed(0, 8, 0, 0.5);
         ring.run(12);
         due.events("all stand with it", ring, 6, "8/2/3/0 12/0/0/0 12/1/0/0");
-        SortLineEvents lost = line(3);
+        SortLineEvents lost = Lines.ofBelts(3);
         lost.rule(0, 2.0, 2);
         lost.joinTo(0, 0);
         lost.feed(0, 4, 0, 1.5);
@@ -328,7 +320,7 @@ public final class TimeTest {
     }
 
     private static void stoodAtAHead() {
-        SortLineEvents line = line(4);
+        SortLineEvents line = Lines.ofBelts(4);
         line.head(0, 0.5, 0.0);
         line.rule(0, 1.0, 3);
         line.feed(0, 1, 0, 1.0);
@@ -338,7 +330,7 @@ public final class TimeTest {
     }
 
     private static void lastTenth() {
-        SortLineEvents line = line(1000);
+        SortLineEvents line = Lines.ofBelts(1000);
         line.rule(0, 0.0, 1000);
         line.feed(0, 9000, 4, 0.0);
         line.feed(0, 10000, 4, 1.0);
